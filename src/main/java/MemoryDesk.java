@@ -33,9 +33,10 @@ public final class MemoryDesk {
 
     private static final int FIRST_RATE = 10;
     private static final int[] FIRST_PERCENTS = {10, 30, 60, 80, 100};
-    private static final int[] FIRST_SETTINGS = {30, 50};
+    private static final int FIRST_REVISION_PERCENT = 30;
+    private static final int FIRST_CHANGE_PERCENT = 50;
     private static final int[] HIGHEST_SETTINGS = {100, 200};
-    private static final int[] LOWEST_MATCHES = {100, 85, 70, 50, 0};
+    private static final int[] LOWEST_MATCHES = {100, 85, 70, 50};
 
     private static final int FLOAT_BIAS = 127;
     private static final int FLOAT_FRACTION_BITS = 23;
@@ -610,7 +611,7 @@ public final class MemoryDesk {
         }
     }
 
-    /** The rows that were delivered; from the index length on, the array holds no row that counts. */
+    /** The rows that were delivered; in the array, those from the index length on do not count. */
     private static final class Memory {
         final Row[] rows = new Row[MEMORY_ROWS];
         int length = 0;
@@ -622,10 +623,10 @@ public final class MemoryDesk {
         }
 
         void copyFrom(Memory other) {
-            for (int i = 0; i < MEMORY_ROWS; i++) {
+            length = other.length;
+            for (int i = 0; i < length; i++) {
                 rows[i] = other.rows[i];
             }
-            length = other.length;
         }
 
         void remember(Row row) {
@@ -670,18 +671,19 @@ public final class MemoryDesk {
         }
     }
 
-    /** A segment; the places of the desk's array behind its last segment hold blank ones. */
+    /** A segment, or what is left in a place of the array in which none counts. */
     private static final class Segment {
         Row source;
-        int stage = OPEN;
-        int translator = NONE;
-        int band = NONE;
-        int percent = NONE;
-        int pay = 0;
-        int earlierPay = 0;
-        int reviser = NONE;
-        int changedWords = 0;
-        int deliveryRate = 0;
+        int stage;
+        int translator;
+        int band;
+        int percent;
+        int pay;
+        int earlierPay;
+        int reviser;
+        int changedWords;
+        /** The rate of its translator at the latest delivery, if there was one. */
+        int deliveryRate;
 
         Segment(Row blank) {
             source = blank;
@@ -697,7 +699,6 @@ public final class MemoryDesk {
             earlierPay = 0;
             reviser = NONE;
             changedWords = 0;
-            deliveryRate = 0;
         }
 
         /** Back to the translator: what was paid stays paid, and the revision is void. */
@@ -797,7 +798,7 @@ public final class MemoryDesk {
 
     /** All that undo restores. */
     private static final class State {
-        final int[] settings = FIRST_SETTINGS.clone();
+        final int[] settings = {FIRST_REVISION_PERCENT, FIRST_CHANGE_PERCENT};
         final Translator[] translators = new Translator[TRANSLATORS];
         final Band[] bands = new Band[BANDS];
         final Term[] terms = new Term[WORDS];
@@ -806,6 +807,7 @@ public final class MemoryDesk {
         int segmentCount = 0;
 
         State() {
+            // Places in which nothing counts hold a row too, so that no reference is ever null.
             Row blank = new Row(new int[0], 0, 0);
             memory = new Memory(blank);
             for (int i = 0; i < TRANSLATORS; i++) {
@@ -833,11 +835,11 @@ public final class MemoryDesk {
             for (int i = 0; i < WORDS; i++) {
                 terms[i].copyFrom(other.terms[i]);
             }
-            for (int i = 0; i < SEGMENTS; i++) {
+            segmentCount = other.segmentCount;
+            for (int i = 0; i < segmentCount; i++) {
                 segments[i].copyFrom(other.segments[i]);
             }
             memory.copyFrom(other.memory);
-            segmentCount = other.segmentCount;
         }
 
         // -- steps of segments
@@ -889,12 +891,12 @@ public final class MemoryDesk {
         // -- what the memory makes of a row
 
         static int bandOf(int match) {
-            for (int band = 0; band < BANDS; band++) {
+            for (int band = 0; band < LOWEST_MATCHES.length; band++) {
                 if (match >= LOWEST_MATCHES[band]) {
                     return band;
                 }
             }
-            return BANDS - 1;
+            return LOWEST_MATCHES.length;
         }
 
         int percentOf(int match) {

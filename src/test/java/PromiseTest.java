@@ -34,6 +34,8 @@ public final class PromiseTest {
         changeAgain();
         undo();
         undoOfEachCall();
+        undoOfALaterRate();
+        undoLeavesNothing();
         undoKeepsSixStates();
         segment();
         word();
@@ -692,6 +694,43 @@ public final class PromiseTest {
             type(desk, "e;f");
             return desk.add();
         });
+    }
+
+    /** The rate at the delivery is told by no look; only a revision shows it. */
+    private static void undoOfALaterRate() {
+        MemoryDesk desk = desk("abcd");
+        finish(desk, 0, 0);
+        desk.rate(0, 40);
+        change(desk, 0, "hhhh");
+        desk.deliver(0);
+        desk.undo();
+        desk.undo();
+        equal("the rate of the first delivery", desk.revise(0, 1, 2), 40 - 2 * 10 * 50 / 100);
+    }
+
+    /** A place of a segment that was undone must be like new for the next one. */
+    private static void undoLeavesNothing() {
+        MemoryDesk desk = desk("abcd");
+        type(desk, "ab;cd");
+        desk.add();
+        finish(desk, 1, 0);
+        desk.revise(1, 2, 1);
+        desk.undo();
+        desk.undo();
+        desk.undo();
+        desk.undo();
+        type(desk, "gh;ef");
+        desk.add();
+        Check.equal("segment 1", properties(desk, 1), "[2, 0, -1, 0, -1, -1, -1, 0, 0, -1, 0, 0]");
+        finish(desk, 1, 0);
+        change(desk, 1, "gg");
+        desk.undo();
+        desk.undo();
+        desk.undo();
+        desk.undo();
+        type(desk, "ee;ef");
+        desk.add();
+        Check.equal("segment 1", properties(desk, 1), "[2, 0, -1, 0, -1, -1, -1, 0, 0, -1, 0, 0]");
     }
 
     private static void undoKeepsSixStates() {
