@@ -1,14 +1,5 @@
-import java.util.Arrays;
-
 /** Promise by promise, with answers worked out by hand from the document. */
-public final class PromiseTest {
-    private static final Class<?> INDEX = IndexOutOfBoundsException.class;
-    private static final Class<?> ARGUMENT = IllegalArgumentException.class;
-    private static final Class<?> STATE = IllegalStateException.class;
-    private static final int NONE = MemoryDesk.NONE;
-    private static final int MIN = Integer.MIN_VALUE;
-    private static final int MAX = Integer.MAX_VALUE;
-
+public final class PromiseTest extends TestDesks {
     private PromiseTest() {
     }
 
@@ -54,102 +45,6 @@ public final class PromiseTest {
         wordCost();
         digest();
         Check.end("PromiseTest");
-    }
-
-    // ---- helpers
-
-    private static void equal(String what, long got, long due) {
-        Check.equal(what, got, due);
-    }
-
-    private static void refused(String what, MemoryDesk desk, Class<?> due, Check.Call call) {
-        Check.refused(what, desk, due, call);
-    }
-
-    private static void type(MemoryDesk desk, String text) {
-        for (char c : text.toCharArray()) {
-            desk.append(c);
-        }
-    }
-
-    private static MemoryDesk desk(String text) {
-        MemoryDesk desk = new MemoryDesk();
-        type(desk, text);
-        desk.add();
-        return desk;
-    }
-
-    private static void finish(MemoryDesk desk, int segment, int translator) {
-        desk.assign(segment, translator);
-        desk.deliver(segment);
-    }
-
-    private static int change(MemoryDesk desk, int segment, String text) {
-        type(desk, text);
-        return desk.change(segment);
-    }
-
-    private static String source(MemoryDesk desk, int segment) {
-        StringBuilder text = new StringBuilder();
-        for (int place = 0; place < 12; place++) {
-            int word = desk.word(segment, place);
-            text.append(word == NONE ? '.' : (char) ('a' + word));
-        }
-        return text.toString();
-    }
-
-    private static String rowOfMemory(MemoryDesk desk, int row) {
-        StringBuilder text = new StringBuilder();
-        for (int place = 0; place < 12; place++) {
-            int word = desk.remembered(row, place);
-            text.append(word == NONE ? '.' : (char) ('a' + word));
-        }
-        return text.toString();
-    }
-
-    private static String commonRow(MemoryDesk desk, int segment, int other) {
-        StringBuilder text = new StringBuilder();
-        for (int place = 0; place < 12; place++) {
-            int word = desk.common(segment, other, place);
-            text.append(word == NONE ? '.' : (char) ('a' + word));
-        }
-        return text.toString();
-    }
-
-    private static String properties(MemoryDesk desk, int segment) {
-        int[] all = new int[12];
-        for (int what = 0; what < 12; what++) {
-            all[what] = desk.segment(segment, what);
-        }
-        return Arrays.toString(all);
-    }
-
-    private static String propertiesOfTranslator(MemoryDesk desk, int translator) {
-        int[] all = new int[7];
-        for (int what = 0; what < 7; what++) {
-            all[what] = desk.translator(translator, what);
-        }
-        return Arrays.toString(all);
-    }
-
-    private static String propertiesOfTerm(MemoryDesk desk, int word) {
-        int[] all = new int[8];
-        for (int what = 0; what < 8; what++) {
-            all[what] = desk.term(word, what);
-        }
-        return Arrays.toString(all);
-    }
-
-    private static String propertiesOfBand(MemoryDesk desk, int band) {
-        return Arrays.toString(new int[] {desk.band(band, 0), desk.band(band, 1), desk.band(band, 2)});
-    }
-
-    private static String counts(MemoryDesk desk) {
-        int[] all = new int[12];
-        for (int what = 0; what < 12; what++) {
-            all[what] = desk.count(what);
-        }
-        return Arrays.toString(all);
     }
 
     // ---- promise 1
@@ -347,17 +242,6 @@ public final class PromiseTest {
         desk.rule(2, 6);
         equal("a ruling ends the dispute", desk.segment(0, 11), 0);
         equal("deliver it", desk.deliver(0), 30);
-    }
-
-    /** Delivers 30 rows, of which the row k has k % 12 + 1 words. */
-    private static MemoryDesk fullMemory() {
-        MemoryDesk desk = desk("a;h;gh");
-        desk.assign(0, 0);
-        for (int row = 0; row < 30; row++) {
-            change(desk, 0, "abcdefabcdef".substring(0, row % 12 + 1));
-            desk.deliver(0);
-        }
-        return desk;
     }
 
     private static void deliverBeyondTheMemory() {
@@ -1093,89 +977,33 @@ public final class PromiseTest {
     // ---- promise 30
 
     private static void digest() {
-        equal("the digest of a new desk", new MemoryDesk().digest(), NEW_DIGEST);
-        MemoryDesk desk = desk("abcd;bcda;hh");
-        digestAsListed("segments", desk);
-        finish(desk, 1, 1);
-        digestAsListed("a row", desk);
-        finish(desk, 0, 2);
-        desk.revise(0, 3, 2);
-        desk.propose(7, 0, 3);
-        desk.propose(7, 2, 4);
-        digestAsListed("a revision and a dispute", desk);
-        type(desk, "ab;~!");
-        digestAsListed("a buffer", desk);
-        digestAsListed("a full memory", fullMemory());
+        equal("the digest of a new desk", new MemoryDesk().digest(), 849378139959831619L);
+        for (int steps = 0; steps < 4; steps++) {
+            MemoryDesk desk = deskAfter(steps);
+            String buffer = steps < 3 ? "" : "ab;~!";
+            equal("digest behind the step " + steps, desk.digest(), Digest.asListed(desk, buffer));
+        }
+        MemoryDesk desk = deskAfter(3);
         long before = desk.digest();
         desk.clearBuffer();
         equal("the buffer counts", desk.digest() == before ? 1 : 0, 0);
     }
 
-    private static final long NEW_DIGEST = 849378139959831619L;
-
-    private static long hash;
-
-    private static void take(long value) {
-        hash = 31 * hash + value;
-    }
-
-    private static void digestAsListed(String what, MemoryDesk desk) {
-        String buffer = bufferOf(desk);
-        hash = 2531;
-        for (int i = 0; i < 12; i++) {
-            take(desk.count(i));
+    /** Segments, then a row, then a revision and a dispute, then a buffer. */
+    private static MemoryDesk deskAfter(int steps) {
+        MemoryDesk desk = desk("abcd;bcda;hh");
+        if (steps > 0) {
+            finish(desk, 1, 1);
         }
-        take(desk.setting(0));
-        take(desk.setting(1));
-        for (int i = 0; i < 4 * 7; i++) {
-            take(desk.translator(i / 7, i % 7));
+        if (steps > 1) {
+            finish(desk, 0, 2);
+            desk.revise(0, 3, 2);
+            desk.propose(7, 0, 3);
+            desk.propose(7, 2, 4);
         }
-        for (int i = 0; i < 8 * 8; i++) {
-            take(desk.term(i / 8, i % 8));
+        if (steps > 2) {
+            type(desk, "ab;~!");
         }
-        for (int i = 0; i < 5 * 3; i++) {
-            take(desk.band(i / 3, i % 3));
-        }
-        for (int segment = 0; segment < desk.count(0); segment++) {
-            takeSegment(desk, segment);
-        }
-        for (int row = 0; row < desk.count(5); row++) {
-            for (char word : rowOfMemory(desk, row).replace(".", "").toCharArray()) {
-                take(word - 'a');
-            }
-            take(desk.near(0, row, 0));
-            take(desk.near(0, row, 1));
-            take(desk.near(0, row, 2));
-        }
-        take(desk.saved());
-        take(Double.doubleToLongBits(desk.wordCost()));
-        take(buffer.length());
-        for (char c : buffer.toCharArray()) {
-            take(c);
-        }
-        equal("digest with " + what, desk.digest(), hash);
-    }
-
-    private static void takeSegment(MemoryDesk desk, int segment) {
-        for (int what = 0; what < 12; what++) {
-            take(desk.segment(segment, what));
-        }
-        for (char word : source(desk, segment).replace(".", "").toCharArray()) {
-            take(word - 'a');
-        }
-        for (int translator = 0; translator < 4; translator++) {
-            take(desk.ifPaid(segment, translator));
-        }
-        for (int place = 0; place < 3; place++) {
-            take(desk.common(segment, 0, place));
-        }
-    }
-
-    /** The tests type just these two texts, so the length tells which one it is. */
-    private static String bufferOf(MemoryDesk desk) {
-        int length = desk.clearBuffer();
-        String text = length == 0 ? "" : "ab;~!";
-        type(desk, text);
-        return text;
+        return desk;
     }
 }
