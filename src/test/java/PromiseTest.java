@@ -4,6 +4,7 @@ public final class PromiseTest extends TestDesks {
     }
 
     public static void main(String[] args) {
+        readme();
         newObject();
         rate();
         pays();
@@ -45,6 +46,24 @@ public final class PromiseTest extends TestDesks {
         wordCost();
         digest();
         Check.end("PromiseTest");
+    }
+
+    // ---- README.md
+
+    /** The example of README.md, call by call. */
+    private static void readme() {
+        MemoryDesk desk = new MemoryDesk();
+        for (char c : "abcd;abce".toCharArray()) {
+            desk.append(c);
+        }
+        equal("add", desk.add(), 2);
+        equal("assign(0, 1)", desk.assign(0, 1), 4);
+        equal("deliver(0)", desk.deliver(0), 40);
+        equal("assign(1, 2)", desk.assign(1, 2), 2);
+        equal("ifPaid(1, 2)", desk.ifPaid(1, 2), 24);
+        equal("undo", desk.undo(), 3);
+        equal("open again", desk.segment(1, 1), 0);
+        refused("deliver(1)", desk, STATE, () -> desk.deliver(1));
     }
 
     // ---- promise 1

@@ -49,7 +49,7 @@ final class Twins {
         }
     }
 
-    private static List<String> looks(MemoryDesk desk) {
+    static List<String> looks(MemoryDesk desk) {
         Told told = new Told();
         for (int what = 0; what < 12; what++) {
             int asked = what;
@@ -105,7 +105,7 @@ final class Twins {
     }
 
     /** Calls that show what no look tells, such as the rate at a delivery. */
-    private static List<String> next(MemoryDesk desk) {
+    static List<String> next(MemoryDesk desk) {
         Told told = new Told();
         told.tell("append", () -> desk.append('a'));
         told.tell("firstError", () -> desk.firstError());
