@@ -103,7 +103,7 @@ public final class MemoryDesk {
     public int deliver(int segment) throws IndexOutOfBoundsException, IllegalStateException {
         checkNumber(segment, state.segmentCount);
         Segment delivered = state.segments[segment];
-        checkState(delivered.stage == ASSIGNED && !state.hasDispute(delivered.source));
+        checkState(delivered.isTakenAt(ASSIGNED) && !state.hasDispute(delivered.source));
         history.save(state);
         state.takeDelivery(delivered);
         return delivered.pay;
@@ -115,7 +115,7 @@ public final class MemoryDesk {
         checkNumber(translator, TRANSLATORS);
         Segment revised = state.segments[segment];
         checkRange(changed, 0, revised.source.length);
-        checkState(revised.stage == DELIVERED && revised.translator != translator);
+        checkState(revised.isTakenAt(DELIVERED) && revised.translator != translator);
         history.save(state);
         state.takeRevision(revised, translator, changed);
         return revised.pay;
@@ -527,15 +527,21 @@ public final class MemoryDesk {
         /** For each word the places where it stands, the place p as the bit 1 << p. */
         final int[] places;
 
-        /** The codes are letters of words, from the index from to ahead of the index end. */
+        /**
+         * The codes are letters of words, from the index from to ahead of the index end. That is
+         * tested all the same, as the words are used as indexes wherever the row goes.
+         */
         Row(int[] codes, int from, int end) {
-            length = Math.max(0, end - from);
+            int first = Math.max(0, from);
+            length = Math.max(0, Math.min(end, codes.length) - first);
             words = new int[length];
             places = new int[WORDS];
             for (int i = 0; i < length; i++) {
-                int word = codes[from + i] - 'a';
-                words[i] = word;
-                places[word] |= 1 << i;
+                int word = codes[first + i] - 'a';
+                if (word >= 0 && word < WORDS) {
+                    words[i] = word;
+                    places[word] |= 1 << i;
+                }
             }
         }
 
@@ -630,7 +636,7 @@ public final class MemoryDesk {
         }
 
         void remember(Row row) {
-            if (length == MEMORY_ROWS) {
+            if (length >= MEMORY_ROWS) {
                 dropFirst();
             }
             rows[length] = row;
@@ -699,6 +705,12 @@ public final class MemoryDesk {
             earlierPay = 0;
             reviser = NONE;
             changedWords = 0;
+        }
+
+        /** Each stage behind open has a translator and a band; they are used as indexes then. */
+        boolean isTakenAt(int reached) {
+            return stage == reached && translator >= 0 && translator < TRANSLATORS
+                    && band >= 0 && band < BANDS;
         }
 
         /** Back to the translator: what was paid stays paid, and the revision is void. */

@@ -38,6 +38,7 @@ public final class LooksBoundaryTest extends TestDesks {
         ifPaidByStage();
         ifPaidRefusals();
         orderMattersAtTheEdges();
+        orderMattersForEveryMatch();
         orderMattersWithAFullMemory();
         orderMattersRefusals();
         savedAtTheEdges();
@@ -524,6 +525,25 @@ public final class LooksBoundaryTest extends TestDesks {
         MemoryDesk rates = desk("abcd;ab");
         rates.rate(0, 99);
         orderIs("rates do not matter", rates, 40);
+    }
+
+    /** Every match that there can be of two rows, so that the edges of all bands are among them. */
+    private static void orderMattersForEveryMatch() {
+        int[] percents = {10, 30, 60, 80, 100};
+        for (int one = 1; one <= 12; one++) {
+            for (int two = 1; two <= 12; two++) {
+                for (int common = 0; common <= Math.min(one, two); common++) {
+                    int then = percents[TermsBoundaryTest.bandOf(200 * common / (one + two))];
+                    String first = "a".repeat(common) + "b".repeat(one - common);
+                    String second = "a".repeat(common) + "c".repeat(two - common);
+                    String what = first + " and " + second;
+                    orderIs(what, desk(first + ";" + second), (one * 100 + two * then) - (two * 100 + one * then));
+                    MemoryDesk known = desk(first + ";" + second + ";" + first);
+                    finish(known, 2, 0);
+                    orderIs(what + ", the first one delivered before", known, 0);
+                }
+            }
+        }
     }
 
     /** Row 0 is "aa". Delivering a segment drops it only if there are 30 rows. */

@@ -257,7 +257,7 @@ public final class TermsBoundaryTest extends TestDesks {
 
     // ---- matches, bands
 
-    private static int bandOf(int match) {
+    static int bandOf(int match) {
         return match == 100 ? 0 : match >= 85 ? 1 : match >= 70 ? 2 : match >= 50 ? 3 : 4;
     }
 
